@@ -34,7 +34,9 @@ public final class BlockLog {
 
     private final Tape tape;
     private final Disk disk;
-    private final Log log;
+    private final Rows rows;
+    private final Story story;
+    private final Pruning pruning;
     private final Snapshot snapshot;
     private final byte[] pageImage;
     private final int[] collectedSlots;
@@ -45,7 +47,9 @@ public final class BlockLog {
         int count = pages < 1 ? 1 : pages > MOST_PAGES ? MOST_PAGES : pages;
         tape = new Tape();
         disk = new Disk(count);
-        log = new Log(disk);
+        rows = new Rows(disk);
+        story = new Story(rows);
+        pruning = new Pruning(disk, rows, story);
         snapshot = new Snapshot();
         pageImage = new byte[PAGE_BYTES];
         collectedSlots = new int[MOST_COLLECTED];
@@ -61,7 +65,7 @@ public final class BlockLog {
             throw new IllegalArgumentException("the tape has no place for so many");
         }
         for (int i = n - 1; i >= 0; i--) {
-            tape.append((int) (w >>> (8 * i)) & 0xFF);
+            tape.append((int) (w >>> (8 * i)));
         }
         return tape.count;
     }
@@ -85,15 +89,15 @@ public final class BlockLog {
         if (n < 1 || n > LEAF_BYTES) {
             throw new IllegalArgumentException("the tape has not 1 .. 16 bytes");
         }
-        if (log.inNeed()) {
+        if (rows.inNeed()) {
             return NEED;
         }
         drawPage(0, n);
-        if (disk.sameLeaf(pageImage) == NONE && disk.firstFree() == NONE) {
-            return FULL;
+        int answer = putLeaf();
+        if (answer != FULL) {
+            tape.count = 0;
         }
-        tape.count = 0;
-        return putLeaf();
+        return answer;
     }
 
     public int change(int slot, int page) throws IllegalStateException, IllegalArgumentException {
@@ -124,19 +128,19 @@ public final class BlockLog {
     public int block(int height, long parent) throws IllegalStateException, IllegalArgumentException {
         demandPower();
         demandHeight(height);
-        if (log.inNeed()) {
+        if (rows.inNeed()) {
             return NEED;
         }
-        long above = log.meant(parent);
-        int parentHeight = log.heightOfParent(above);
+        long above = story.meant(parent);
+        int parentHeight = story.heightOfParent(above);
         if (parentHeight == NONE) {
             return UNKNOWN;
         }
         if (height != parentHeight + 1) {
             return WRONG;
         }
-        int same = log.blockRow(collectedDigest(height, above));
-        if (same == NONE && log.rows + 1 + collected > AREA_ROWS) {
+        int same = story.blockRow(collectedDigest(height, above));
+        if (same == NONE && rows.count + 1 + collected > AREA_ROWS) {
             return FULL;
         }
         int count = collected;
@@ -147,7 +151,7 @@ public final class BlockLog {
     public long digest(int row) throws IndexOutOfBoundsException, IllegalStateException {
         demandRow(row);
         demandPower();
-        return log.digestAt(row);
+        return story.digestAt(row);
     }
 
     public int vote(int height, int round, long digest) throws IllegalStateException, IllegalArgumentException {
@@ -156,34 +160,35 @@ public final class BlockLog {
         if (round < 0 || round > MOST_ROUND) {
             throw new IllegalArgumentException("round is not 0 .. 1000000");
         }
-        if (log.inNeed()) {
+        if (rows.inNeed()) {
             return NEED;
         }
-        long meant = log.meant(digest);
-        int block = log.blockRow(meant);
-        if (block == NONE || log.a(block) != height) {
+        long meant = story.meant(digest);
+        int block = story.blockRow(meant);
+        if (block == NONE || rows.a(block) != height) {
             return UNKNOWN;
         }
-        int last = log.lastVote;
+        int last = story.lastVote;
         if (last != NONE) {
-            if (log.a(last) == height && log.b(last) == round && log.c(last) == meant) {
+            int lastHeight = rows.a(last);
+            int lastRound = rows.b(last);
+            if (lastHeight == height && lastRound == round && rows.c(last) == meant) {
                 return last;
             }
-            if (log.a(last) > height || log.a(last) == height && log.b(last) >= round) {
+            if (lastHeight > height || lastHeight == height && lastRound >= round) {
                 return LATE;
             }
         }
-        if (log.rows >= AREA_ROWS) {
+        if (rows.count >= AREA_ROWS) {
             return FULL;
         }
-        int row = log.rows;
-        return log.append(VOTE, height, round, meant) ? row : OFF;
+        return append(VOTE, height, round, meant) ? rows.count - 1 : OFF;
     }
 
     public boolean sent(int row) throws IndexOutOfBoundsException, IllegalStateException {
         demandRow(row);
         demandPower();
-        return log.stateAt(row) == RIGHT && log.kind(row) == VOTE;
+        return rows.state(row) == RIGHT && rows.kind(row) == VOTE;
     }
 
     public int certify(long digest, int signers) throws IllegalStateException, IllegalArgumentException {
@@ -191,28 +196,28 @@ public final class BlockLog {
         if (signers < 0 || signers > ALL_SIGNERS) {
             throw new IllegalArgumentException("signers is not 0 .. 15");
         }
-        if (log.inNeed()) {
+        if (rows.inNeed()) {
             return NEED;
         }
-        long meant = log.meant(digest);
-        int block = log.blockRow(meant);
+        long meant = story.meant(digest);
+        int block = story.blockRow(meant);
         if (block == NONE) {
             return UNKNOWN;
         }
         if (Integer.bitCount(signers) < ENOUGH_SIGNERS) {
             return WEAK;
         }
-        int height = log.a(block);
-        if (log.isCertified(block)) {
+        int height = rows.a(block);
+        if (story.isCertified(block)) {
             return height;
         }
-        if (!log.isNext(block)) {
+        if (!story.isNext(block)) {
             return OTHER;
         }
-        if (log.rows >= AREA_ROWS) {
+        if (rows.count >= AREA_ROWS) {
             return FULL;
         }
-        return log.append(CERTIFICATE, height, signers, meant) ? height : OFF;
+        return append(CERTIFICATE, height, signers, meant) ? height : OFF;
     }
 
     public int version(int what) throws IllegalStateException, IllegalArgumentException {
@@ -220,7 +225,7 @@ public final class BlockLog {
         if (what != 0 && what != 1) {
             throw new IllegalArgumentException("what is not 0 or 1");
         }
-        return what == 0 ? log.lastVersion() : log.baseHeight();
+        return what == 0 ? story.lastVersion() : story.baseHeight;
     }
 
     public long slot(int version, int slot) throws IllegalStateException, IllegalArgumentException {
@@ -228,11 +233,11 @@ public final class BlockLog {
         if (slot < 0 || slot >= SLOTS) {
             throw new IllegalArgumentException("no such slot");
         }
-        if (!log.isKept(version)) {
+        if (!story.isKept(version)) {
             throw new IllegalArgumentException("the version is not kept");
         }
-        log.drawVersion(version);
-        return log.slots[slot];
+        story.drawVersion(version);
+        return story.slots[slot];
     }
 
     public int page(long digest) throws IllegalStateException {
@@ -255,34 +260,35 @@ public final class BlockLog {
         demandPage(page);
         demandPower();
         Page held = disk.rightPage(page);
-        return held != null && log.names(held.sum());
+        return held != null && story.names(held.sum());
     }
 
     public int prune(int height) throws IllegalStateException, IllegalArgumentException {
         demandPower();
-        if (log.inNeed()) {
+        if (rows.inNeed()) {
             return NEED;
         }
-        if (height <= log.baseHeight() || height > log.lastVersion()) {
+        if (height <= story.baseHeight || height > story.lastVersion()) {
             throw new IllegalArgumentException("the height is not above THE BASE'S, or above the last version's");
         }
-        if (log.drawPruned(height) > AREA_ROWS) {
+        if (pruning.mark(height) > AREA_ROWS) {
             return FULL;
         }
-        if (!log.moveTo(height)) {
+        if (!pruning.move(height)) {
             return OFF;
         }
-        return eraseUnnamed();
+        story.hearAnew();
+        return disk.eraseHead(1 - rows.area) ? eraseUnnamed() : OFF;
     }
 
     public int out(int version) throws IllegalStateException, IllegalArgumentException {
         demandPower();
-        if (version == 0 || !log.isKept(version)) {
+        if (version == 0 || !story.isKept(version)) {
             throw new IllegalArgumentException("the version is not kept, or 0");
         }
-        log.drawVersion(version);
+        story.drawVersion(version);
         for (int slot = 0; slot < SLOTS; slot++) {
-            if (log.slots[slot] != 0 && disk.pageOf(log.slots[slot]) == null) {
+            if (story.slots[slot] != 0 && disk.pageOf(story.slots[slot]) == null) {
                 return UNKNOWN;
             }
         }
@@ -292,10 +298,10 @@ public final class BlockLog {
 
     public int in() throws IllegalStateException {
         demandPower();
-        if (log.inNeed()) {
+        if (rows.inNeed()) {
             return NEED;
         }
-        if (log.rows > 0) {
+        if (rows.count > 0) {
             return OTHER;
         }
         if (!snapshot.read(tape)) {
@@ -309,7 +315,7 @@ public final class BlockLog {
     }
 
     public void cut(int acts) throws IllegalArgumentException {
-        if (acts != NONE && (acts < 0 || acts > MOST_ACTS)) {
+        if (acts < NONE || acts > MOST_ACTS) {
             throw new IllegalArgumentException("acts is neither NONE nor 0 .. 5000");
         }
         disk.actsLeft = acts;
@@ -324,18 +330,19 @@ public final class BlockLog {
 
     public int open() {
         if (disk.powered) {
-            return log.rows;
+            return rows.count;
         }
-        // What was collected is no part of the disk: it went with the power, however that went.
+        // What was collected is no part of the disk: it went with the power, in whatever way that went.
         collected = 0;
-        if (!log.choose()) {
+        if (!rows.choose()) {
             return LOST;
         }
         disk.powered = true;
-        if (!log.clear() || !disk.eraseTornPages() || !log.seal() || !disk.sealPages()) {
+        if (!recover()) {
             return OFF;
         }
-        return log.rows;
+        story.hearAnew();
+        return rows.count;
     }
 
     public int poke(int place, int mask) throws IndexOutOfBoundsException, IllegalStateException, IllegalArgumentException {
@@ -361,11 +368,11 @@ public final class BlockLog {
         if (k < 0) {
             return NONE;
         }
-        if (k < log.badRows) {
-            return log.badRow(k);
+        if (k < rows.bad) {
+            return rows.badRow(k);
         }
-        Page bad = disk.badPage(k - log.badRows);
-        return bad == null ? NONE : AREA_ROWS + bad.number;
+        Page held = disk.badPage(k - rows.bad);
+        return held == null ? NONE : AREA_ROWS + held.number;
     }
 
     public int mend(int what) throws IllegalStateException, IllegalArgumentException {
@@ -373,13 +380,20 @@ public final class BlockLog {
         if (!isAsked(what)) {
             throw new IllegalArgumentException("it is not asked for");
         }
-        boolean right = what < AREA_ROWS ? log.drawMended(what, tape) : drawMendedPage(what - AREA_ROWS);
+        boolean isRow = what < AREA_ROWS;
+        boolean right = isRow ? rows.drawMended(what, tape) : drawMendedPage(what - AREA_ROWS);
         if (!right) {
             return WRONG;
         }
         tape.count = 0;
-        boolean done = what < AREA_ROWS ? log.rewrite(what) : disk.writePage(what - AREA_ROWS, pageImage);
-        return done ? log.badRows + disk.badPages() : OFF;
+        boolean done = isRow ? rows.rewrite(what) : disk.writePage(what - AREA_ROWS, pageImage);
+        if (!done) {
+            return OFF;
+        }
+        if (isRow) {
+            story.hearAnew();
+        }
+        return rows.bad + disk.badPages();
     }
 
     public int told(int what) throws IllegalArgumentException {
@@ -394,15 +408,15 @@ public final class BlockLog {
         }
         switch (what) {
             case 2:
-                return log.area;
+                return rows.area;
             case 3:
-                return log.generation;
+                return rows.generation;
             case 4:
-                return log.rows;
+                return rows.count;
             case 5:
                 return disk.freePages();
             case 6:
-                return log.badRows;
+                return rows.bad;
             case 7:
                 return disk.badPages();
             case 8:
@@ -418,15 +432,15 @@ public final class BlockLog {
         }
     }
 
-    private void demandHeight(int height) {
+    private static void demandHeight(int height) {
         if (!isHeight(height)) {
             throw new IllegalArgumentException("height is not 1 .. 1000000");
         }
     }
 
     private void demandRow(int row) {
-        int rows = disk.powered ? log.rows : AREA_ROWS;
-        if (row < 0 || row >= rows) {
+        int count = disk.powered ? rows.count : AREA_ROWS;
+        if (row < 0 || row >= count) {
             throw new IndexOutOfBoundsException("no such row");
         }
     }
@@ -438,13 +452,28 @@ public final class BlockLog {
     }
 
     private void demandPlace(int place) {
-        if (place < 0 || place >= disk.size()) {
+        if (place < 0 || place >= FIRST_PAGE + PAGE_BYTES * disk.pageCount) {
             throw new IndexOutOfBoundsException("no such place");
         }
     }
 
     private static boolean isHeight(int height) {
         return height >= 1 && height <= MOST_HEIGHT;
+    }
+
+    private boolean recover() {
+        if (!rows.clear() || !rows.inNeed() && !rows.dropLacking()) {
+            return false;
+        }
+        return disk.eraseTornPages() && rows.seal() && disk.sealPages();
+    }
+
+    private boolean append(int kind, int a, int b, long c) {
+        if (!rows.write(kind, a, b, c)) {
+            return false;
+        }
+        story.hear();
+        return true;
     }
 
     /** Makes the image of the page of a leaf of n bytes that stand on the tape. */
@@ -456,35 +485,38 @@ public final class BlockLog {
         Bytes.close(pageImage, PAGE_BODY, BY_PAGE);
     }
 
-    /** Puts the leaf of the image: its page, or OFF. The caller has asked ahead whether there is a place. */
+    /** Puts the leaf of the image: its page, FULL or OFF. */
     private int putLeaf() {
         int same = disk.sameLeaf(pageImage);
         if (same != NONE) {
             return same;
         }
         int free = disk.firstFree();
+        if (free == NONE) {
+            return FULL;
+        }
         return disk.writePage(free, pageImage) ? free : OFF;
     }
 
     private long collectedDigest(int height, long parent) {
-        long s = Bytes.sumOfLong(Bytes.sumOfInt(Bytes.start(BY_BLOCK), height), parent);
+        long s = Bytes.addLong(Bytes.addInt(Bytes.start(BY_BLOCK), height), parent);
         for (int i = 0; i < collected; i++) {
-            s = Bytes.sumOfLong(Bytes.sumOfInt(s, collectedSlots[i]), collectedLeaves[i]);
+            s = Bytes.addLong(Bytes.addInt(s, collectedSlots[i]), collectedLeaves[i]);
         }
         return s;
     }
 
-    private int writeBlock(int height, long parent, int count) {
-        int row = log.rows;
-        if (!log.write(BLOCK, height, count, parent)) {
+    private int writeBlock(int height, long parent, int changes) {
+        int row = rows.count;
+        if (!rows.write(BLOCK, height, changes, parent)) {
             return OFF;
         }
-        for (int i = 0; i < count; i++) {
-            if (!log.write(CHANGE, collectedSlots[i], 0, collectedLeaves[i])) {
+        for (int i = 0; i < changes; i++) {
+            if (!rows.write(CHANGE, collectedSlots[i], 0, collectedLeaves[i])) {
                 return OFF;
             }
         }
-        log.hear();
+        story.hear();
         return row;
     }
 
@@ -492,7 +524,7 @@ public final class BlockLog {
         int erased = 0;
         for (int i = 0; i < disk.touched.size(); i++) {
             Page held = disk.touched.get(i);
-            if (held.state() == RIGHT && !log.names(held.sum())) {
+            if (held.state() == RIGHT && !story.names(held.sum())) {
                 if (!disk.erasePage(held)) {
                     return OFF;
                 }
@@ -502,14 +534,14 @@ public final class BlockLog {
         return erased;
     }
 
+    /** Needs the slots drawn, and a page for each of their leaves. */
     private void writeSnapshot(int version) {
-        int count = log.filledSlots();
         tape.count = 0;
         tape.appendInt(version);
-        tape.appendLong(log.blockOf(version));
-        tape.append(count);
+        tape.appendLong(story.blockOf(version));
+        tape.append(story.filledSlots());
         for (int slot = 0; slot < SLOTS; slot++) {
-            Page held = log.slots[slot] == 0 ? null : disk.pageOf(log.slots[slot]);
+            Page held = story.slots[slot] == 0 ? null : disk.pageOf(story.slots[slot]);
             if (held != null) {
                 tape.append(slot);
                 for (int i = 0; i <= held.size(); i++) {
@@ -520,7 +552,7 @@ public final class BlockLog {
         tape.appendLong(Bytes.sum(tape.bytes, 0, tape.count, BY_SNAPSHOT));
     }
 
-    /** How many pages the snapshot's leaves need: not for those that are there, and once for those that are alike. */
+    /** How many pages the snapshot's leaves need: none for those that are there, one for those that are alike. */
     private int newLeaves() {
         int count = 0;
         for (int i = 0; i < snapshot.count; i++) {
@@ -536,19 +568,19 @@ public final class BlockLog {
         for (int i = 0; i < snapshot.count; i++) {
             drawPage(snapshot.starts[i], snapshot.sizes[i]);
             snapshot.digests[i] = Bytes.longAt(pageImage, PAGE_BODY);
-            if (putLeaf() == OFF) {
+            if (putLeaf() < 0) {
                 return false;
             }
         }
-        if (!log.write(BASE, snapshot.height, snapshot.count, snapshot.block)) {
+        if (!rows.write(BASE, snapshot.height, snapshot.count, snapshot.block)) {
             return false;
         }
         for (int i = 0; i < snapshot.count; i++) {
-            if (!log.write(CHANGE, snapshot.slots[i], 0, snapshot.digests[i])) {
+            if (!rows.write(CHANGE, snapshot.slots[i], 0, snapshot.digests[i])) {
                 return false;
             }
         }
-        log.hear();
+        story.hear();
         return true;
     }
 
@@ -557,7 +589,7 @@ public final class BlockLog {
             return false;
         }
         if (what < AREA_ROWS) {
-            return what < log.rows && log.stateAt(what) == BAD;
+            return what < rows.count && rows.state(what) == BAD;
         }
         Page held = disk.find(what - AREA_ROWS);
         return held != null && held.state() == BAD;
@@ -573,7 +605,7 @@ public final class BlockLog {
         return Bytes.mends(pageImage, held.bytes, 0, PAGE_BODY);
     }
 
-    /** Numbers with the highest byte first, THE SUM, and what a row and a page have in common. */
+    /** Numbers with the highest byte first, THE SUM, and what rows and pages have in common. */
     private static final class Bytes {
         private static final long FACTOR = 0xC2B2AE3D27D4EB4FL;
 
@@ -581,27 +613,31 @@ public final class BlockLog {
             return 1000003L * number;
         }
 
-        static long step(long s, int b) {
+        static long add(long s, int b) {
             long mixed = s ^ (b & 0xFF);
             return ((mixed << 21) | (mixed >>> 43)) * FACTOR;
         }
 
-        static long sumOfInt(long s, int value) {
+        static long addInt(long s, int value) {
             long sum = s;
             for (int shift = 24; shift >= 0; shift -= 8) {
-                sum = step(sum, value >>> shift);
+                sum = add(sum, value >>> shift);
             }
             return sum;
         }
 
-        static long sumOfLong(long s, long value) {
-            return sumOfInt(sumOfInt(s, (int) (value >>> 32)), (int) value);
+        static long addLong(long s, long value) {
+            long sum = s;
+            for (int shift = 56; shift >= 0; shift -= 8) {
+                sum = add(sum, (int) (value >>> shift));
+            }
+            return sum;
         }
 
         static long sum(byte[] bytes, int from, int n, int number) {
             long s = start(number);
             for (int i = from; i < from + n; i++) {
-                s = step(s, bytes[i]);
+                s = add(s, bytes[i]);
             }
             return s;
         }
@@ -615,7 +651,11 @@ public final class BlockLog {
         }
 
         static long longAt(byte[] bytes, int from) {
-            return ((long) intAt(bytes, from) << 32) | (intAt(bytes, from + 4) & 0xFFFFFFFFL);
+            long value = 0;
+            for (int i = from; i < from + 8; i++) {
+                value = (value << 8) | (bytes[i] & 0xFF);
+            }
+            return value;
         }
 
         static void putInt(byte[] bytes, int from, int value) {
@@ -625,8 +665,9 @@ public final class BlockLog {
         }
 
         static void putLong(byte[] bytes, int from, long value) {
-            putInt(bytes, from, (int) (value >>> 32));
-            putInt(bytes, from + 4, (int) value);
+            for (int i = 0; i < 8; i++) {
+                bytes[from + i] = (byte) (value >>> (56 - 8 * i));
+            }
         }
 
         static boolean isZero(byte[] bytes, int from, int n) {
@@ -638,9 +679,9 @@ public final class BlockLog {
             return true;
         }
 
-        static boolean isSame(byte[] some, byte[] others, int from, int n) {
+        static boolean isSame(byte[] image, byte[] bytes, int from, int n) {
             for (int i = 0; i < n; i++) {
-                if (some[i] != others[from + i]) {
+                if (image[i] != bytes[from + i]) {
                     return false;
                 }
             }
@@ -653,11 +694,10 @@ public final class BlockLog {
             image[body + SUM_BYTES] = (byte) SEAL;
         }
 
-        /** The state of a row or page, by its bytes alone (not by the form of a leaf). */
+        /** The state of a row or page by its SUM (the form of a leaf is not looked at). */
         static int judge(byte[] bytes, int from, int body, int number) {
             int last = bytes[from + body + SUM_BYTES] & 0xFF;
-            boolean othersZero = isZero(bytes, from, body + SUM_BYTES);
-            if (othersZero) {
+            if (isZero(bytes, from, body + SUM_BYTES)) {
                 return last == 0 ? FREE : TORN;
             }
             long sum = longAt(bytes, from + body);
@@ -669,17 +709,17 @@ public final class BlockLog {
 
         /** Whether an image (with its SUM) is what a BAD row or page was. */
         static boolean mends(byte[] image, byte[] bytes, int from, int body) {
-            int wrong = 0;
+            int unlike = 0;
             for (int i = body; i < body + SUM_BYTES; i++) {
                 if (image[i] != bytes[from + i]) {
-                    wrong++;
+                    unlike++;
                 }
             }
-            return wrong == 0 || wrong == 1 && isSame(image, bytes, from, body);
+            return unlike == 0 || unlike == 1 && isSame(image, bytes, from, body);
         }
     }
 
-    /** The bytes that were fed. When it is emptied, the bytes still stand there until the next ones come. */
+    /** The bytes that were fed. When it is emptied they still stand there, until others come. */
     private static final class Tape {
         private final byte[] bytes;
         private int count;
@@ -712,12 +752,12 @@ public final class BlockLog {
     private static final class Page {
         private final int number;
         private final byte[] bytes;
-        private int state;
+        private int known;
 
         Page(int number) {
             this.number = number;
             bytes = new byte[PAGE_BYTES];
-            state = FREE;
+            known = FREE;
         }
 
         int size() {
@@ -729,13 +769,13 @@ public final class BlockLog {
         }
 
         int state() {
-            if (state == UNSEEN) {
-                state = Bytes.judge(bytes, 0, PAGE_BODY, BY_PAGE);
-                if (state == RIGHT && !hasForm()) {
-                    state = bytes[PAGE_BYTES - 1] == 0 ? TORN : BAD;
+            if (known == UNSEEN) {
+                known = Bytes.judge(bytes, 0, PAGE_BODY, BY_PAGE);
+                if (known == RIGHT && !hasForm()) {
+                    known = bytes[PAGE_BYTES - 1] == 0 ? TORN : BAD;
                 }
             }
-            return state;
+            return known;
         }
 
         private boolean hasForm() {
@@ -764,10 +804,6 @@ public final class BlockLog {
             actsDone = 0;
         }
 
-        int size() {
-            return FIRST_PAGE + PAGE_BYTES * pageCount;
-        }
-
         int read(int place) {
             if (place < FIRST_PAGE) {
                 return low[place] & 0xFF;
@@ -777,12 +813,16 @@ public final class BlockLog {
         }
 
         void set(int place, int value) {
-            if (place >= FIRST_PAGE) {
-                Page held = touch((place - FIRST_PAGE) / PAGE_BYTES);
-                held.bytes[(place - FIRST_PAGE) % PAGE_BYTES] = (byte) value;
-                held.state = UNSEEN;
+            if (place < FIRST_PAGE) {
+                setLow(place, value);
                 return;
             }
+            Page held = touch((place - FIRST_PAGE) / PAGE_BYTES);
+            held.bytes[(place - FIRST_PAGE) % PAGE_BYTES] = (byte) value;
+            held.known = UNSEEN;
+        }
+
+        void setLow(int place, int value) {
             low[place] = (byte) value;
             if (place >= FIRST_ROW) {
                 rowStates[(place - FIRST_ROW) / ROW_BYTES] = UNSEEN;
@@ -806,26 +846,58 @@ public final class BlockLog {
             return true;
         }
 
-        boolean write(int place, byte[] image, int n) {
+        boolean writeLow(int place, byte[] image, int n) {
             for (int i = 0; i < n; i++) {
                 if (!act()) {
                     return false;
                 }
-                set(place + i, image[i]);
+                setLow(place + i, image[i]);
             }
             return true;
         }
 
         boolean writePage(int number, byte[] image) {
-            return write(FIRST_PAGE + PAGE_BYTES * number, image, PAGE_BYTES);
+            for (int i = 0; i < PAGE_BYTES; i++) {
+                if (!act()) {
+                    return false;
+                }
+                Page held = touch(number);
+                held.bytes[i] = image[i];
+                held.known = UNSEEN;
+            }
+            return true;
         }
 
-        boolean eraseLow(int place, int n) {
+        boolean sealLow(int place) {
             if (!act()) {
                 return false;
             }
+            setLow(place, SEAL);
+            return true;
+        }
+
+        boolean eraseHead(int head) {
+            if (!act()) {
+                return false;
+            }
+            for (int i = 0; i < HEAD_BYTES; i++) {
+                low[HEAD_BYTES * head + i] = 0;
+            }
+            return true;
+        }
+
+        /** One act, whether it is a row or a whole area. */
+        boolean eraseRows(int area, int first, int n) {
+            if (!act()) {
+                return false;
+            }
+            int index = AREA_ROWS * area + first;
+            int from = FIRST_ROW + ROW_BYTES * index;
+            for (int i = 0; i < ROW_BYTES * n; i++) {
+                low[from + i] = 0;
+            }
             for (int i = 0; i < n; i++) {
-                set(place + i, 0);
+                rowStates[index + i] = FREE;
             }
             return true;
         }
@@ -837,20 +909,12 @@ public final class BlockLog {
             for (int i = 0; i < PAGE_BYTES; i++) {
                 held.bytes[i] = 0;
             }
-            held.state = FREE;
-            return true;
-        }
-
-        boolean sealByte(int place) {
-            if (!act()) {
-                return false;
-            }
-            set(place, SEAL);
+            held.known = FREE;
             return true;
         }
 
         int rowState(int area, int row) {
-            int index = area * AREA_ROWS + row;
+            int index = AREA_ROWS * area + row;
             if (rowStates[index] == UNSEEN) {
                 rowStates[index] = (byte) Bytes.judge(low, FIRST_ROW + ROW_BYTES * index, ROW_BODY, BY_ROW);
             }
@@ -859,17 +923,17 @@ public final class BlockLog {
 
         /** Where a page stands among the touched ones, or would stand. */
         private int position(int number) {
-            int low = 0;
-            int high = touched.size();
-            while (low < high) {
-                int middle = (low + high) >>> 1;
+            int from = 0;
+            int to = touched.size();
+            for (int step = 0; step < 32 && from < to; step++) {
+                int middle = (from + to) >>> 1;
                 if (touched.get(middle).number < number) {
-                    low = middle + 1;
+                    from = middle + 1;
                 } else {
-                    high = middle;
+                    to = middle;
                 }
             }
-            return low;
+            return from;
         }
 
         Page find(int number) {
@@ -969,53 +1033,35 @@ public final class BlockLog {
         boolean sealPages() {
             for (int i = 0; i < touched.size(); i++) {
                 Page held = touched.get(i);
-                boolean open = held.state() == RIGHT && (held.bytes[PAGE_BYTES - 1] & 0xFF) != SEAL;
-                if (open && !sealByte(FIRST_PAGE + PAGE_BYTES * held.number + PAGE_BYTES - 1)) {
-                    return false;
+                if (held.state() == RIGHT && (held.bytes[PAGE_BYTES - 1] & 0xFF) != SEAL) {
+                    if (!act()) {
+                        return false;
+                    }
+                    held.bytes[PAGE_BYTES - 1] = (byte) SEAL;
                 }
             }
             return true;
         }
     }
 
-    /** The rows of the area in use, and what they say. */
-    private static final class Log {
+    /** The rows of the area in use, as bytes: reading and writing them, OPEN and MEND. */
+    private static final class Rows {
         private final Disk disk;
         private final byte[] image;
-        private final long[] digests;
-        private final boolean[] isBlock;
-        private final boolean[] inBlock;
-        private final boolean[] fits;
-        private final boolean[] keeps;
-        private final int[] chain;
-        private final long[] slots;
         private int area;
         private int generation;
-        private int rows;
-        private int badRows;
-        private int heard;
-        private int certified;
-        private int lastVote;
-        private boolean based;
+        private int count;
+        private int bad;
 
-        Log(Disk disk) {
+        Rows(Disk disk) {
             this.disk = disk;
             image = new byte[ROW_BYTES];
-            digests = new long[AREA_ROWS];
-            isBlock = new boolean[AREA_ROWS];
-            inBlock = new boolean[AREA_ROWS];
-            fits = new boolean[AREA_ROWS];
-            keeps = new boolean[AREA_ROWS];
-            chain = new int[AREA_ROWS];
-            slots = new long[SLOTS];
             area = 0;
             generation = 1;
-            rows = 0;
-            forget();
+            count = 0;
+            bad = 0;
             drawHead(generation);
-            for (int i = 0; i < HEAD_BYTES; i++) {
-                disk.set(i, image[i]);
-            }
+            System.arraycopy(image, 0, disk.low, 0, HEAD_BYTES);
         }
 
         private int place(int row) {
@@ -1038,226 +1084,15 @@ public final class BlockLog {
             return Bytes.longAt(disk.low, place(row) + C_AT);
         }
 
-        int stateAt(int row) {
+        int state(int row) {
             return disk.rowState(area, row);
         }
 
         boolean inNeed() {
-            return badRows > 0;
+            return bad > 0;
         }
 
-        // ---- what rows say
-
-        private void forget() {
-            heard = 0;
-            certified = 0;
-            lastVote = NONE;
-            based = false;
-        }
-
-        /** Takes in the rows that were not heard yet: what a row says never depends on rows that come later. */
-        private void hear() {
-            if (inNeed()) {
-                return;
-            }
-            for (int row = heard; row < rows; row++) {
-                digests[row] = 0;
-                isBlock[row] = false;
-                inBlock[row] = false;
-                fits[row] = false;
-            }
-            for (int row = heard; row < rows; row++) {
-                hearRow(row);
-            }
-            heard = rows;
-        }
-
-        private void hearRow(int row) {
-            switch (kind(row)) {
-                case VOTE:
-                    lastVote = row;
-                    break;
-                case BLOCK:
-                    hearBlock(row);
-                    break;
-                case CERTIFICATE:
-                    hearCertificate(row);
-                    break;
-                case BASE:
-                    if (row == 0 && hasChanges(row) && c(row) != 0) {
-                        digests[row] = c(row);
-                        based = true;
-                    }
-                    break;
-                default:
-                    break;
-            }
-        }
-
-        private void hearBlock(int row) {
-            long digest = hasChanges(row) ? sumOfBlock(row) : 0;
-            if (digest == 0) {
-                return;
-            }
-            isBlock[row] = blockRow(digest) == NONE && !(based && digest == digests[0]);
-            digests[row] = digest;
-            int last = row + b(row);
-            for (int i = row + 1; i <= last; i++) {
-                inBlock[i] = true;
-            }
-        }
-
-        private void hearCertificate(int row) {
-            int block = blockRow(c(row));
-            if (block != NONE && isNext(block)) {
-                fits[row] = true;
-                chain[certified] = block;
-                certified++;
-            }
-        }
-
-        /** Whether a BLOCK or BASE has a height, and the CHANGES that it tells. */
-        private boolean hasChanges(int row) {
-            int count = b(row);
-            if (!isHeight(a(row)) || count < 0 || count > MOST_CHANGES || row + count >= rows) {
-                return false;
-            }
-            for (int i = row + 1; i <= row + count; i++) {
-                if (kind(i) != CHANGE || a(i) < 0 || a(i) >= SLOTS) {
-                    return false;
-                }
-            }
-            return true;
-        }
-
-        private long sumOfBlock(int row) {
-            long s = Bytes.sumOfLong(Bytes.sumOfInt(Bytes.start(BY_BLOCK), a(row)), c(row));
-            int last = row + b(row);
-            for (int i = row + 1; i <= last; i++) {
-                s = Bytes.sumOfLong(Bytes.sumOfInt(s, a(i)), c(i));
-            }
-            return s;
-        }
-
-        int blockRow(long digest) {
-            if (inNeed() || digest == 0) {
-                return NONE;
-            }
-            for (int row = 0; row < rows; row++) {
-                if (isBlock[row] && digests[row] == digest) {
-                    return row;
-                }
-            }
-            return NONE;
-        }
-
-        long digestAt(int row) {
-            return inNeed() || row < 0 || row >= rows ? 0 : digests[row];
-        }
-
-        /** The digest that a caller means: -1 .. -128 stand for that of a row's block. */
-        long meant(long digest) {
-            return digest < 0 && digest >= -AREA_ROWS ? digestAt((int) (-1 - digest)) : digest;
-        }
-
-        int heightOfParent(long digest) {
-            if (based && digest == digests[0]) {
-                return a(0);
-            }
-            if (!based && digest == 0) {
-                return 0;
-            }
-            int row = blockRow(digest);
-            return row == NONE ? NONE : a(row);
-        }
-
-        int baseHeight() {
-            return based && !inNeed() ? a(0) : 0;
-        }
-
-        int lastVersion() {
-            return baseHeight() + certified;
-        }
-
-        boolean isKept(int version) {
-            return !inNeed() && version >= baseHeight() && version <= lastVersion();
-        }
-
-        /** The digest of a kept version's block; 0 for version 0. */
-        long blockOf(int version) {
-            int k = version - baseHeight() - 1;
-            if (k >= 0 && k < certified) {
-                return digests[chain[k]];
-            }
-            return based ? digests[0] : 0;
-        }
-
-        boolean isNext(int block) {
-            return a(block) == lastVersion() + 1 && c(block) == blockOf(lastVersion());
-        }
-
-        boolean isCertified(int block) {
-            for (int k = 0; k < certified; k++) {
-                if (chain[k] == block) {
-                    return true;
-                }
-            }
-            return false;
-        }
-
-        /** Makes the slots those of a kept version. */
-        void drawVersion(int version) {
-            for (int slot = 0; slot < SLOTS; slot++) {
-                slots[slot] = 0;
-            }
-            if (based) {
-                drawChanges(0);
-            }
-            int behind = version - baseHeight();
-            for (int k = 0; k < behind && k < certified; k++) {
-                drawChanges(chain[k]);
-            }
-        }
-
-        private void drawChanges(int row) {
-            int last = row + b(row);
-            for (int i = row + 1; i <= last; i++) {
-                slots[a(i)] = c(i);
-            }
-        }
-
-        int filledSlots() {
-            int count = 0;
-            for (int slot = 0; slot < SLOTS; slot++) {
-                if (slots[slot] != 0) {
-                    count++;
-                }
-            }
-            return count;
-        }
-
-        /** Later versions have leaves of the first kept one, or of blocks: so these two are all that is to be looked at. */
-        boolean names(long leaf) {
-            if (inNeed() || leaf == 0) {
-                return false;
-            }
-            for (int row = 0; row < rows; row++) {
-                if (inBlock[row] && c(row) == leaf) {
-                    return true;
-                }
-            }
-            drawVersion(baseHeight());
-            for (int slot = 0; slot < SLOTS; slot++) {
-                if (slots[slot] == leaf) {
-                    return true;
-                }
-            }
-            return false;
-        }
-
-        // ---- writing
-
-        private void drawRow(int kind, int a, int b, long c) {
+        void draw(int kind, int a, int b, long c) {
             for (int i = 0; i < ROW_BODY; i++) {
                 image[i] = 0;
             }
@@ -1268,34 +1103,30 @@ public final class BlockLog {
             Bytes.close(image, ROW_BODY, BY_ROW);
         }
 
-        private void drawHead(int number) {
+        void drawHead(int number) {
             Bytes.putInt(image, 0, number);
             Bytes.putInt(image, 4, SEAL);
             Bytes.putLong(image, HEAD_BODY, Bytes.sum(image, 0, HEAD_BODY, BY_HEAD));
         }
 
-        /** Writes a row behind the others; what it says is heard when its GROUP is whole. */
+        void drawCopy(int row) {
+            System.arraycopy(disk.low, place(row), image, 0, ROW_BYTES);
+            image[ROW_BYTES - 1] = (byte) SEAL;
+        }
+
+        boolean writeImage(int inArea, int row) {
+            return disk.writeLow(FIRST_ROW + AREA_BYTES * inArea + ROW_BYTES * row, image, ROW_BYTES);
+        }
+
+        /** Writes a row behind the others. The caller has looked whether there is a place. */
         boolean write(int kind, int a, int b, long c) {
-            if (rows >= AREA_ROWS) {
+            draw(kind, a, b, c);
+            if (count >= AREA_ROWS || !writeImage(area, count)) {
                 return false;
             }
-            drawRow(kind, a, b, c);
-            if (!disk.write(place(rows), image, ROW_BYTES)) {
-                return false;
-            }
-            rows++;
+            count++;
             return true;
         }
-
-        boolean append(int kind, int a, int b, long c) {
-            if (!write(kind, a, b, c)) {
-                return false;
-            }
-            hear();
-            return true;
-        }
-
-        // ---- OPEN and MEND
 
         private boolean isHead(int head) {
             int from = HEAD_BYTES * head;
@@ -1320,46 +1151,42 @@ public final class BlockLog {
             return true;
         }
 
-        /** Erases the other head and what is torn of the rows, and hears the rest; false when the power has gone. */
+        /** Erases the other head, finds the rows, and erases the torn one behind them. */
         boolean clear() {
-            int other = HEAD_BYTES * (1 - area);
-            if (!Bytes.isZero(disk.low, other, HEAD_BYTES) && !disk.eraseLow(other, HEAD_BYTES)) {
+            int other = 1 - area;
+            if (!Bytes.isZero(disk.low, HEAD_BYTES * other, HEAD_BYTES) && !disk.eraseHead(other)) {
                 return false;
             }
-            rows = 0;
-            while (rows < AREA_ROWS && (stateAt(rows) == RIGHT || stateAt(rows) == BAD)) {
-                rows++;
+            bad = 0;
+            for (count = 0; count < AREA_ROWS; count++) {
+                int state = state(count);
+                if (state == TORN) {
+                    return disk.eraseRows(area, count, 1);
+                }
+                if (state == FREE) {
+                    return true;
+                }
+                if (state == BAD) {
+                    bad++;
+                }
             }
-            if (rows < AREA_ROWS && stateAt(rows) == TORN && !disk.eraseLow(place(rows), ROW_BYTES)) {
-                return false;
-            }
-            return hearAnew();
-        }
-
-        private boolean hearAnew() {
-            badRows = countBad();
-            forget();
-            if (!inNeed() && !dropLacking()) {
-                return false;
-            }
-            hear();
             return true;
         }
 
         private int countBad() {
-            int count = 0;
-            for (int row = 0; row < rows; row++) {
-                if (stateAt(row) == BAD) {
-                    count++;
+            int found = 0;
+            for (int row = 0; row < count; row++) {
+                if (state(row) == BAD) {
+                    found++;
                 }
             }
-            return count;
+            return found;
         }
 
         int badRow(int k) {
             int ahead = 0;
-            for (int row = 0; row < rows; row++) {
-                if (stateAt(row) == BAD) {
+            for (int row = 0; row < count; row++) {
+                if (state(row) == BAD) {
                     if (ahead == k) {
                         return row;
                     }
@@ -1370,32 +1197,32 @@ public final class BlockLog {
         }
 
         /** Erases the last BLOCK or BASE, when there are fewer rows behind it than it tells. */
-        private boolean dropLacking() {
-            int row = rows - 1;
+        boolean dropLacking() {
+            int row = count - 1;
             while (row >= 0 && kind(row) != BLOCK && kind(row) != BASE) {
                 row--;
             }
             if (row < 0) {
                 return true;
             }
-            int count = b(row);
-            if (count < 0 || count > MOST_CHANGES || rows - 1 - row >= count) {
+            int changes = b(row);
+            if (changes < 0 || changes > MOST_CHANGES || count - 1 - row >= changes) {
                 return true;
             }
-            for (int i = rows - 1; i >= row; i--) {
-                if (!disk.eraseLow(place(i), ROW_BYTES)) {
+            for (int i = count - 1; i >= row; i--) {
+                if (!disk.eraseRows(area, i, 1)) {
                     return false;
                 }
             }
-            rows = row;
+            count = row;
             return true;
         }
 
         boolean seal() {
-            for (int row = 0; row < rows; row++) {
+            for (int row = 0; row < count; row++) {
                 int last = place(row) + ROW_BYTES - 1;
-                boolean open = stateAt(row) == RIGHT && (disk.low[last] & 0xFF) != SEAL;
-                if (open && !disk.sealByte(last)) {
+                boolean unsealed = state(row) == RIGHT && (disk.low[last] & 0xFF) != SEAL;
+                if (unsealed && !disk.sealLow(last)) {
                     return false;
                 }
             }
@@ -1407,43 +1234,299 @@ public final class BlockLog {
             if (tape.count != ROW_BODY) {
                 return false;
             }
-            for (int i = 0; i < ROW_BODY; i++) {
-                image[i] = tape.bytes[i];
-            }
+            System.arraycopy(tape.bytes, 0, image, 0, ROW_BODY);
             Bytes.close(image, ROW_BODY, BY_ROW);
             return Bytes.mends(image, disk.low, place(row), ROW_BODY);
         }
 
         boolean rewrite(int row) {
-            return disk.write(place(row), image, ROW_BYTES) && hearAnew();
+            if (!writeImage(area, row)) {
+                return false;
+            }
+            bad = countBad();
+            return inNeed() || dropLacking();
+        }
+    }
+
+    /** What the rows say. In NEED nothing is known, and all is as if there were no rows. */
+    private static final class Story {
+        private final Rows rows;
+        private final long[] digests;
+        private final boolean[] isBlock;
+        private final boolean[] inBlock;
+        private final boolean[] fits;
+        private final int[] chain;
+        private final long[] slots;
+        private int heard;
+        private int certified;
+        private int lastVote;
+        private boolean based;
+        private int baseHeight;
+
+        Story(Rows rows) {
+            this.rows = rows;
+            digests = new long[AREA_ROWS];
+            isBlock = new boolean[AREA_ROWS];
+            inBlock = new boolean[AREA_ROWS];
+            fits = new boolean[AREA_ROWS];
+            chain = new int[AREA_ROWS];
+            slots = new long[SLOTS];
+            heard = 0;
+            certified = 0;
+            lastVote = NONE;
+            based = false;
+            baseHeight = 0;
         }
 
-        // ---- PRUNE
-
-        /** Marks the rows that stay when it is pruned to a height: how many rows there will be. */
-        int drawPruned(int height) {
-            drawVersion(height);
-            for (int row = 0; row < rows; row++) {
-                keeps[row] = row == lastVote || fits[row] && a(blockRow(c(row))) > height;
+        void hearAnew() {
+            heard = 0;
+            certified = 0;
+            lastVote = NONE;
+            based = false;
+            baseHeight = 0;
+            if (!rows.inNeed()) {
+                hear();
             }
-            keepBlocks(height, blockOf(height));
-            int count = 1 + filledSlots();
-            for (int row = 0; row < rows; row++) {
-                if (keeps[row]) {
-                    count++;
+        }
+
+        /** Takes in the rows that came since: no row changes what rows ahead of it say, as GROUPS are heard whole. */
+        void hear() {
+            for (int row = heard; row < rows.count; row++) {
+                digests[row] = 0;
+                isBlock[row] = false;
+                inBlock[row] = false;
+                fits[row] = false;
+            }
+            int first = heard;
+            heard = rows.count;
+            for (int row = first; row < heard; row++) {
+                switch (rows.kind(row)) {
+                    case VOTE:
+                        lastVote = row;
+                        break;
+                    case BLOCK:
+                        hearBlock(row);
+                        break;
+                    case CERTIFICATE:
+                        hearCertificate(row);
+                        break;
+                    case BASE:
+                        hearBase(row);
+                        break;
+                    default:
+                        break;
                 }
             }
-            return count;
         }
 
-        /** A parent may stand behind its child (where old rows came to light again), so one pass is not enough. */
-        private void keepBlocks(int height, long root) {
+        private void hearBase(int row) {
+            if (row == 0 && isWhole(row) && rows.c(row) != 0) {
+                digests[row] = rows.c(row);
+                based = true;
+                baseHeight = rows.a(row);
+            }
+        }
+
+        private void hearBlock(int row) {
+            long digest = isWhole(row) ? sumOfBlock(row) : 0;
+            if (digest == 0) {
+                return;
+            }
+            isBlock[row] = blockRow(digest) == NONE && !(based && digest == digests[0]);
+            digests[row] = digest;
+            int last = row + rows.b(row);
+            for (int i = row + 1; i <= last; i++) {
+                inBlock[i] = true;
+            }
+        }
+
+        private void hearCertificate(int row) {
+            int block = blockRow(rows.c(row));
+            if (block != NONE && isNext(block)) {
+                fits[row] = true;
+                chain[certified] = block;
+                certified++;
+            }
+        }
+
+        /** Whether a BLOCK or BASE has a height, and behind it the CHANGES that it tells. */
+        private boolean isWhole(int row) {
+            int changes = rows.b(row);
+            if (!isHeight(rows.a(row)) || changes < 0 || changes > MOST_CHANGES || row + changes >= heard) {
+                return false;
+            }
+            for (int i = row + 1; i <= row + changes; i++) {
+                int slot = rows.a(i);
+                if (rows.kind(i) != CHANGE || slot < 0 || slot >= SLOTS) {
+                    return false;
+                }
+            }
+            return true;
+        }
+
+        private long sumOfBlock(int row) {
+            long s = Bytes.addLong(Bytes.addInt(Bytes.start(BY_BLOCK), rows.a(row)), rows.c(row));
+            int last = row + rows.b(row);
+            for (int i = row + 1; i <= last; i++) {
+                s = Bytes.addLong(Bytes.addInt(s, rows.a(i)), rows.c(i));
+            }
+            return s;
+        }
+
+        /** The row of a block that is there (BASE's block is not), or NONE. */
+        int blockRow(long digest) {
+            if (digest == 0) {
+                return NONE;
+            }
+            for (int row = 0; row < heard; row++) {
+                if (isBlock[row] && digests[row] == digest) {
+                    return row;
+                }
+            }
+            return NONE;
+        }
+
+        long digestAt(int row) {
+            return row < 0 || row >= heard ? 0 : digests[row];
+        }
+
+        /** The digest that a caller means: -1 .. -128 stand for that of a row's block. */
+        long meant(long digest) {
+            return digest < 0 && digest >= -AREA_ROWS ? digestAt((int) (-1 - digest)) : digest;
+        }
+
+        /** NONE when no block can have this parent. */
+        int heightOfParent(long digest) {
+            if (digest == (based ? digests[0] : 0)) {
+                return baseHeight;
+            }
+            int row = blockRow(digest);
+            return row == NONE ? NONE : rows.a(row);
+        }
+
+        int lastVersion() {
+            return baseHeight + certified;
+        }
+
+        boolean isKept(int version) {
+            return !rows.inNeed() && version >= baseHeight && version <= lastVersion();
+        }
+
+        /** The digest of a kept version's block; 0 for version 0. */
+        long blockOf(int version) {
+            int k = version - baseHeight - 1;
+            if (k >= 0 && k < certified) {
+                return digests[chain[k]];
+            }
+            return based ? digests[0] : 0;
+        }
+
+        boolean isNext(int block) {
+            return rows.a(block) == lastVersion() + 1 && rows.c(block) == blockOf(lastVersion());
+        }
+
+        boolean isCertified(int block) {
+            for (int k = 0; k < certified; k++) {
+                if (chain[k] == block) {
+                    return true;
+                }
+            }
+            return false;
+        }
+
+        /** Makes the slots those of a kept version. */
+        void drawVersion(int version) {
+            for (int slot = 0; slot < SLOTS; slot++) {
+                slots[slot] = 0;
+            }
+            if (based) {
+                drawChanges(0);
+            }
+            for (int k = 0; k < certified && k < version - baseHeight; k++) {
+                drawChanges(chain[k]);
+            }
+        }
+
+        private void drawChanges(int row) {
+            int last = row + rows.b(row);
+            for (int i = row + 1; i <= last; i++) {
+                slots[rows.a(i)] = rows.c(i);
+            }
+        }
+
+        int filledSlots() {
+            int filled = 0;
+            for (int slot = 0; slot < SLOTS; slot++) {
+                if (slots[slot] != 0) {
+                    filled++;
+                }
+            }
+            return filled;
+        }
+
+        /** Later versions have leaves of the first kept one, or of blocks: these two are all that is to be looked at. */
+        boolean names(long leaf) {
+            if (leaf == 0) {
+                return false;
+            }
+            for (int row = 0; row < heard; row++) {
+                if (inBlock[row] && rows.c(row) == leaf) {
+                    return true;
+                }
+            }
+            drawVersion(baseHeight);
+            for (int slot = 0; slot < SLOTS; slot++) {
+                if (slots[slot] == leaf) {
+                    return true;
+                }
+            }
+            return false;
+        }
+    }
+
+    /** PRUNE, up to the other area's being in use. */
+    private static final class Pruning {
+        private final Disk disk;
+        private final Rows rows;
+        private final Story story;
+        private final boolean[] keeps;
+
+        Pruning(Disk disk, Rows rows, Story story) {
+            this.disk = disk;
+            this.rows = rows;
+            this.story = story;
+            keeps = new boolean[AREA_ROWS];
+        }
+
+        /** Draws the version of a height and marks the rows that stay: how many rows there will be. */
+        int mark(int height) {
+            story.drawVersion(height);
+            for (int row = 0; row < rows.count; row++) {
+                keeps[row] = row == story.lastVote || story.fits[row] && isAbove(row, height);
+            }
+            markBlocks(height, story.blockOf(height));
+            int will = 1 + story.filledSlots();
+            for (int row = 0; row < rows.count; row++) {
+                if (keeps[row]) {
+                    will++;
+                }
+            }
+            return will;
+        }
+
+        private boolean isAbove(int certificate, int height) {
+            int block = story.blockRow(rows.c(certificate));
+            return block != NONE && rows.a(block) > height;
+        }
+
+        /** A parent may stand behind its child (where old rows came to light again): one pass is not always enough. */
+        private void markBlocks(int height, long root) {
             boolean more = true;
             for (int pass = 0; more && pass < AREA_ROWS; pass++) {
                 more = false;
-                for (int row = 0; row < rows; row++) {
-                    if (isBlock[row] && !keeps[row] && a(row) > height && hasKeptParent(row, root)) {
-                        keepGroup(row);
+                for (int row = 0; row < rows.count; row++) {
+                    if (story.isBlock[row] && !keeps[row] && rows.a(row) > height && hasKeptParent(row, root)) {
+                        markGroup(row);
                         more = true;
                     }
                 }
@@ -1451,61 +1534,51 @@ public final class BlockLog {
         }
 
         private boolean hasKeptParent(int row, long root) {
-            if (c(row) == root) {
-                return true;
-            }
-            int parent = blockRow(c(row));
-            return parent != NONE && keeps[parent];
+            long digest = rows.c(row);
+            int parent = story.blockRow(digest);
+            return digest == root || parent != NONE && keeps[parent];
         }
 
-        private void keepGroup(int row) {
-            int last = row + b(row);
+        private void markGroup(int row) {
+            int last = row + rows.b(row);
             for (int i = row; i <= last; i++) {
                 keeps[i] = true;
             }
         }
 
-        /** Writes what drawPruned() has marked into the other area, and takes that into use. */
-        boolean moveTo(int height) {
-            int other = 1 - area;
-            if (!disk.eraseLow(FIRST_ROW + AREA_BYTES * other, AREA_BYTES)) {
+        /** Writes what mark() has drawn and marked into the other area, and takes that into use. */
+        boolean move(int height) {
+            int other = 1 - rows.area;
+            if (!disk.eraseRows(other, 0, AREA_ROWS)) {
                 return false;
             }
-            int count = writeVersion(height, other);
+            int ahead = writeVersion(height, other);
+            int count = ahead == OFF ? OFF : copyKept(ahead, other);
             if (count == OFF) {
                 return false;
             }
-            count = copyKept(count, other);
-            if (count == OFF) {
+            int generation = rows.generation + 1;
+            rows.drawHead(generation);
+            if (!disk.writeLow(HEAD_BYTES * other, rows.image, HEAD_BYTES)) {
                 return false;
             }
-            drawHead(generation + 1);
-            if (!disk.write(HEAD_BYTES * other, image, HEAD_BYTES)) {
-                return false;
-            }
-            area = other;
-            generation++;
-            rows = count;
-            forget();
-            hear();
-            return disk.eraseLow(HEAD_BYTES * (1 - other), HEAD_BYTES);
-        }
-
-        private boolean writeOther(int row, int other) {
-            return disk.write(FIRST_ROW + AREA_BYTES * other + ROW_BYTES * row, image, ROW_BYTES);
+            rows.area = other;
+            rows.generation = generation;
+            rows.count = count;
+            return true;
         }
 
         /** How many rows are in the other area then, or OFF. */
         private int writeVersion(int height, int other) {
-            drawRow(BASE, height, filledSlots(), blockOf(height));
-            if (!writeOther(0, other)) {
+            rows.draw(BASE, height, story.filledSlots(), story.blockOf(height));
+            if (!rows.writeImage(other, 0)) {
                 return OFF;
             }
             int count = 1;
             for (int slot = 0; slot < SLOTS; slot++) {
-                if (slots[slot] != 0) {
-                    drawRow(CHANGE, slot, 0, slots[slot]);
-                    if (!writeOther(count, other)) {
+                if (story.slots[slot] != 0) {
+                    rows.draw(CHANGE, slot, 0, story.slots[slot]);
+                    if (!rows.writeImage(other, count)) {
                         return OFF;
                     }
                     count++;
@@ -1516,11 +1589,10 @@ public final class BlockLog {
 
         private int copyKept(int ahead, int other) {
             int count = ahead;
-            for (int row = 0; row < rows; row++) {
+            for (int row = 0; row < rows.count; row++) {
                 if (keeps[row]) {
-                    System.arraycopy(disk.low, place(row), image, 0, ROW_BYTES);
-                    image[ROW_BYTES - 1] = (byte) SEAL;
-                    if (!writeOther(count, other)) {
+                    rows.drawCopy(row);
+                    if (!rows.writeImage(other, count)) {
                         return OFF;
                     }
                     count++;
