@@ -35,6 +35,7 @@ public final class PromiseTest {
         promise26();
         promise26pages();
         promise27();
+        sumsOfZero();
         whatRowsSay();
         oldRowsComeToLight();
         powerOff();
@@ -642,6 +643,7 @@ public final class PromiseTest {
         x.wipe();
         x.feed(55, 1);
         Due.is("a leaf is bad", UNKNOWN, x.out(2));
+        Due.is("in each version that has it", UNKNOWN, x.out(1));
         Due.is("the tape stays", 55, x.at(0));
         Due.is("a version without it", 24, x.out(3));
         Lab.feed(x, 1, 2, 3);
@@ -1161,6 +1163,61 @@ public final class PromiseTest {
             Due.is("told " + what + " when it is off", what == 1 ? want[1] : 0, x.told(what));
         }
         Due.argument("told 9", () -> x.told(9));
+    }
+
+    /** Bytes that were searched for, since their SUM is 0: that counts only in front of 165, and as a digest it is none. */
+    private static void sumsOfZero() {
+        int[] leaf = {219, 223, 222, 156, 120, 254, 150, 234, 91, 224, 17, 19, 154, 121, 33, 215};
+        Due.is("the leaf's digest", 0, Lab.leafDigest(leaf));
+        for (int cut = 0; cut <= 26; cut++) {
+            BlockLog x = new BlockLog(2);
+            x.cut(cut);
+            Lab.feed(x, leaf);
+            Due.is("leaf", cut < 26 ? OFF : 0, x.leaf());
+            x.cut(NONE);
+            x.open();
+            Due.is("free pages behind " + cut, cut < 26 ? 2 : 1, x.told(5));
+            Due.is("bad pages", 0, x.told(7));
+        }
+        BlockLog x = new BlockLog(2);
+        Lab.leaf(x, leaf);
+        Due.is("page of 0", 0, x.page(0));
+        Due.is("its last byte", 215, x.byteOf(0, 15));
+        Due.is("the same", 0, Lab.leaf(x, leaf));
+        Due.is("change", 1, x.change(0, 0));
+        Due.is("block", 0, x.block(1, 0));
+        Due.is("0 is not named", false, x.named(0));
+        x.certify(-1, 7);
+        Due.is("slot", 0, x.slot(1, 0));
+        Due.is("out", 21, x.out(1));
+        x.off();
+        x.poke(Lab.page(0) + 25, 1);
+        x.open();
+        Due.is("bad", 128, x.asked(0));
+        Lab.feed(x, leaf);
+        Due.is("mend", 0, x.mend(128));
+        Due.is("a leaf that is not named", 1, x.prune(1));
+
+        int[] vote = Model.row(1, 1, 847834, 0x1E0793C3E84C7F75L);
+        Lab.bytes("the SUM of a row", rowOnly(vote), Lab.row(0, 0) + 23, 0, 0, 0, 0, 0, 0, 0, 0, 165);
+        Due.is("a right row", 1, reopened(rowOnly(vote)));
+        Due.is("another last byte: bad", 0, rowOnly(with(vote, 31, 7)).asked(0));
+        Due.is("0 as the last byte: torn", 0, reopened(rowOnly(with(vote, 31, 0))));
+
+        BlockLog y = rowOnly(Model.row(2, 630560, 0, 0x4C5101AE0C1D3548L));
+        Due.is("a row", 1, y.told(4));
+        Due.is("a block without a digest says nothing", 0, y.digest(0));
+        Due.is("it is none", UNKNOWN, y.vote(630560, 0, 0));
+        Due.is("0 is still no parent at that height", WRONG, y.block(630561, 0));
+        Due.is("0 is the parent of the first", 1, y.block(1, 0));
+    }
+
+    private static BlockLog rowOnly(int[] row) {
+        BlockLog x = new BlockLog(2);
+        x.off();
+        Lab.overwrite(x, Lab.row(0, 0), row);
+        x.open();
+        return x;
     }
 
     /** Rows that were made by hand, among them such as say nothing. */
