@@ -332,8 +332,6 @@ public final class BlockLog {
         if (disk.powered) {
             return rows.count;
         }
-        // What was collected is no part of the disk: it went with the power, in whatever way that went.
-        collected = 0;
         if (!rows.choose()) {
             return LOST;
         }

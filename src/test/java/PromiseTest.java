@@ -202,7 +202,7 @@ public final class PromiseTest {
         Due.is("a row that is not there stands for 0", 4, x.block(1, -100));
         Due.is("WRONG height by a row", WRONG, x.block(2, -4));
         Due.is("height 3", 5, x.block(3, -4));
-        fillRows(x, 120);
+        Lab.fillRows(x, 120);
         for (int i = 0; i < 8; i++) {
             x.change(i, 1);
         }
@@ -220,13 +220,6 @@ public final class PromiseTest {
         Due.is("full", FULL, x.block(4, -6));
         x.off();
         Due.state("off, wrong height", () -> x.block(0, 0));
-    }
-
-    /** Votes until there are so many rows. */
-    private static void fillRows(BlockLog x, int rows) {
-        for (int round = 0; x.told(4) < rows; round++) {
-            x.vote(1, round, -1);
-        }
     }
 
     private static void promise8() {
@@ -284,7 +277,7 @@ public final class PromiseTest {
 
         BlockLog y = new BlockLog(1);
         y.block(1, 0);
-        fillRows(y, 128);
+        Lab.fillRows(y, 128);
         Due.is("the same when it is full", 127, y.vote(1, 126, -1));
         Due.is("LATE ahead of FULL", LATE, y.vote(1, 0, -1));
         Due.is("full", FULL, y.vote(1, 127, -1));
@@ -340,7 +333,7 @@ public final class PromiseTest {
         BlockLog y = new BlockLog(1);
         y.block(1, 0);
         y.block(2, -1);
-        fillRows(y, 127);
+        Lab.fillRows(y, 127);
         Due.is("the last row", 1, y.certify(-1, 15));
         Due.is("it has one", 1, y.certify(-1, 15));
         Due.is("full", FULL, y.certify(-2, 15));
@@ -492,14 +485,9 @@ public final class PromiseTest {
         Due.is("rows", 1, x.told(4));
         Due.is("area", 0, x.told(2));
         Due.is("generation", 3, x.told(3));
-        Due.is("open", 1, reopened(x));
+        Due.is("open", 1, Lab.reopen(x));
         x.off();
         Due.state("off", () -> x.prune(1));
-    }
-
-    private static int reopened(BlockLog x) {
-        x.off();
-        return x.open();
     }
 
     /** Which rows stay: the branch above the base, its certificates and the latest vote, in their order. */
@@ -558,7 +546,7 @@ public final class PromiseTest {
      */
     private static void promise17full() {
         BlockLog x = new BlockLog(16);
-        Lab.feed(x, snapshotOf(5, 77, 16));
+        Lab.feed(x, Lab.snapshot(5, 77, 16));
         x.in();
         x.block(6, 77);
         long six = x.digest(17);
@@ -577,15 +565,6 @@ public final class PromiseTest {
         Due.is("slot 15", Lab.leafDigest(15), x.slot(6, 15));
         Due.is("the vote", true, x.sent(123));
         Due.is("the empty block", true, x.digest(124) != 0);
-    }
-
-    /** A snapshot with leaves {0}, {1}, .. in the first slots. */
-    private static int[] snapshotOf(int height, long digest, int slots) {
-        int[] bytes = Model.join(Model.number(height, 4), Model.number(digest, 8), new int[] {slots});
-        for (int s = 0; s < slots; s++) {
-            bytes = Model.join(bytes, new int[] {s, 1, s});
-        }
-        return Model.join(bytes, Model.number(Model.sum(5, bytes), 8));
     }
 
     /** Wherever the power goes in prune(), the versions are there behind it. */
@@ -711,24 +690,24 @@ public final class PromiseTest {
     private static void promise19refuses() {
         int[] good = {0, 0, 0, 7, 0, 0, 0, 0, 0, 0, 0, 1, 2, 3, 1, 9, 5, 2, 8, 8};
         Due.is("good", 7, inOf(good));
-        Due.is("no slots", 7, inOf(with(Arrays.copyOf(good, 13), 12, 0)));
-        Due.is("height 0", WRONG, inOf(with(good, 3, 0)));
-        Due.is("height 1000000", 1000000, inOf(with(with(with(good, 1, 0x0F), 2, 0x42), 3, 0x40)));
-        Due.is("height 1000001", WRONG, inOf(with(with(with(good, 1, 0x0F), 2, 0x42), 3, 0x41)));
-        Due.is("height below 0", WRONG, inOf(with(good, 0, 255)));
-        Due.is("digest 0", WRONG, inOf(with(good, 11, 0)));
-        Due.is("too few slots", WRONG, inOf(with(good, 12, 1)));
-        Due.is("too many slots", WRONG, inOf(with(good, 12, 3)));
-        Due.is("far too many slots", WRONG, inOf(with(good, 12, 255)));
-        Due.is("slots that do not rise", WRONG, inOf(with(good, 16, 3)));
-        Due.is("slots that fall", WRONG, inOf(with(good, 16, 2)));
-        Due.is("slot 16", WRONG, inOf(with(good, 16, 16)));
-        Due.is("slot 255", WRONG, inOf(with(good, 16, 255)));
-        Due.is("slot 15", 7, inOf(with(good, 16, 15)));
-        Due.is("a leaf of none", WRONG, inOf(with(good, 14, 0)));
-        Due.is("a leaf of 17", WRONG, inOf(with(good, 17, 17)));
-        Due.is("a leaf that is too long", WRONG, inOf(with(good, 17, 3)));
-        Due.is("a leaf that is too short", WRONG, inOf(with(good, 17, 1)));
+        Due.is("no slots", 7, inOf(Lab.with(Arrays.copyOf(good, 13), 12, 0)));
+        Due.is("height 0", WRONG, inOf(Lab.with(good, 3, 0)));
+        Due.is("height 1000000", 1000000, inOf(Lab.with(Lab.with(Lab.with(good, 1, 0x0F), 2, 0x42), 3, 0x40)));
+        Due.is("height 1000001", WRONG, inOf(Lab.with(Lab.with(Lab.with(good, 1, 0x0F), 2, 0x42), 3, 0x41)));
+        Due.is("height below 0", WRONG, inOf(Lab.with(good, 0, 255)));
+        Due.is("digest 0", WRONG, inOf(Lab.with(good, 11, 0)));
+        Due.is("too few slots", WRONG, inOf(Lab.with(good, 12, 1)));
+        Due.is("too many slots", WRONG, inOf(Lab.with(good, 12, 3)));
+        Due.is("far too many slots", WRONG, inOf(Lab.with(good, 12, 255)));
+        Due.is("slots that do not rise", WRONG, inOf(Lab.with(good, 16, 3)));
+        Due.is("slots that fall", WRONG, inOf(Lab.with(good, 16, 2)));
+        Due.is("slot 16", WRONG, inOf(Lab.with(good, 16, 16)));
+        Due.is("slot 255", WRONG, inOf(Lab.with(good, 16, 255)));
+        Due.is("slot 15", 7, inOf(Lab.with(good, 16, 15)));
+        Due.is("a leaf of none", WRONG, inOf(Lab.with(good, 14, 0)));
+        Due.is("a leaf of 17", WRONG, inOf(Lab.with(good, 17, 17)));
+        Due.is("a leaf that is too long", WRONG, inOf(Lab.with(good, 17, 3)));
+        Due.is("a leaf that is too short", WRONG, inOf(Lab.with(good, 17, 1)));
         int[] long16 = Model.join(Arrays.copyOf(good, 16), new int[] {5, 16}, new int[16]);
         Due.is("a leaf of 16", 7, inOf(long16));
         int[] long17 = Model.join(Arrays.copyOf(good, 16), new int[] {5, 17}, new int[17]);
@@ -739,7 +718,7 @@ public final class PromiseTest {
         Due.is("20 bytes", WRONG, x.in());
         int[] all = Model.join(good, Model.number(Model.sum(5, good), 8));
         for (int i = 0; i < all.length; i++) {
-            Lab.feed(x, with(all, i, all[i] ^ 1));
+            Lab.feed(x, Lab.with(all, i, all[i] ^ 1));
             Due.is("byte " + i + " is another", WRONG, x.in());
             Due.is("the tape stays", all.length, x.wipe());
         }
@@ -752,12 +731,6 @@ public final class PromiseTest {
             most = Model.join(most, new int[] {s, 16, s}, new int[15]);
         }
         Due.is("16 leaves of 16", 7, inOf(most));
-    }
-
-    private static int[] with(int[] bytes, int i, int b) {
-        int[] out = bytes.clone();
-        out[i] = b;
-        return out;
     }
 
     private static int inOf(int[] body) {
@@ -821,6 +794,11 @@ public final class PromiseTest {
         x.cut(0);
         Due.is("vote has no block", UNKNOWN, x.vote(1, 0, 0));
         Due.is("leaf", OFF, Lab.leaf(x, 2));
+        Due.is("told", 0, x.told(8));
+        x.open();
+        Due.is("leaf() does not use it up", 1, x.told(8));
+        x.cut(0);
+        Due.is("leaf", OFF, Lab.leaf(x, 2));
         Due.is("off behind a cut", false, x.off());
         x.open();
         Due.is("nothing is collected", 0, x.told(8));
@@ -874,7 +852,7 @@ public final class PromiseTest {
         Due.is("the page", 4, x.open());
         Due.is("page 0", 165, x.byteAt(Lab.page(0) + 25));
         Due.is("acts", acts + 5, x.told(1));
-        Due.is("nothing is to be done", 4, reopened(x));
+        Due.is("nothing is to be done", 4, Lab.reopen(x));
         Due.is("acts", acts + 5, x.told(1));
         x.off();
         x.poke(Lab.row(0, 2) + 31, 165);
@@ -1199,25 +1177,17 @@ public final class PromiseTest {
         Due.is("a leaf that is not named", 1, x.prune(1));
 
         int[] vote = Model.row(1, 1, 847834, 0x1E0793C3E84C7F75L);
-        Lab.bytes("the SUM of a row", rowOnly(vote), Lab.row(0, 0) + 23, 0, 0, 0, 0, 0, 0, 0, 0, 165);
-        Due.is("a right row", 1, reopened(rowOnly(vote)));
-        Due.is("another last byte: bad", 0, rowOnly(with(vote, 31, 7)).asked(0));
-        Due.is("0 as the last byte: torn", 0, reopened(rowOnly(with(vote, 31, 0))));
+        Lab.bytes("the SUM of a row", Lab.withRows(2, vote), Lab.row(0, 0) + 23, 0, 0, 0, 0, 0, 0, 0, 0, 165);
+        Due.is("a right row", 1, Lab.reopen(Lab.withRows(2, vote)));
+        Due.is("another last byte: bad", 0, Lab.withRows(2, Lab.with(vote, 31, 7)).asked(0));
+        Due.is("0 as the last byte: torn", 0, Lab.reopen(Lab.withRows(2, Lab.with(vote, 31, 0))));
 
-        BlockLog y = rowOnly(Model.row(2, 630560, 0, 0x4C5101AE0C1D3548L));
+        BlockLog y = Lab.withRows(2, Model.row(2, 630560, 0, 0x4C5101AE0C1D3548L));
         Due.is("a row", 1, y.told(4));
         Due.is("a block without a digest says nothing", 0, y.digest(0));
         Due.is("it is none", UNKNOWN, y.vote(630560, 0, 0));
         Due.is("0 is still no parent at that height", WRONG, y.block(630561, 0));
         Due.is("0 is the parent of the first", 1, y.block(1, 0));
-    }
-
-    private static BlockLog rowOnly(int[] row) {
-        BlockLog x = new BlockLog(2);
-        x.off();
-        Lab.overwrite(x, Lab.row(0, 0), row);
-        x.open();
-        return x;
     }
 
     /** Rows that were made by hand, among them such as say nothing. */

@@ -161,7 +161,6 @@ final class Model {
         if (left == 0) {
             left = -1;
             on = false;
-            collected.clear();
             throw new PowerGone();
         }
         if (left > 0) {
