@@ -1340,7 +1340,7 @@ public final class BlockLog {
 
         private void hearCertificate(int row) {
             int block = blockRow(rows.c(row));
-            if (block != NONE && isNext(block)) {
+            if (block != NONE && isNext(block) && certified < AREA_ROWS) {
                 fits[row] = true;
                 chain[certified] = block;
                 certified++;
@@ -1447,8 +1447,11 @@ public final class BlockLog {
 
         private void drawChanges(int row) {
             int last = row + rows.b(row);
-            for (int i = row + 1; i <= last; i++) {
-                slots[rows.a(i)] = rows.c(i);
+            for (int i = row + 1; i <= last && i < heard; i++) {
+                int slot = rows.a(i);
+                if (slot >= 0 && slot < SLOTS) {
+                    slots[slot] = rows.c(i);
+                }
             }
         }
 
@@ -1539,7 +1542,7 @@ public final class BlockLog {
 
         private void markGroup(int row) {
             int last = row + rows.b(row);
-            for (int i = row; i <= last; i++) {
+            for (int i = row; i <= last && i < AREA_ROWS; i++) {
                 keeps[i] = true;
             }
         }

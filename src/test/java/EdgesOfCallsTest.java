@@ -806,6 +806,16 @@ public final class EdgesOfCallsTest {
             Due.is("none is left", FULL, z.in());
             Due.is("the tape stays", Lab.closed(body).length, z.wipe());
         });
+        Due.sentence("19: leaves are alike when all their bytes are", () -> {
+            int[] body = Model.join(Model.number(3, 4), Model.number(77, 8),
+                new int[] {4, 0, 3, 1, 2, 3, 1, 3, 1, 2, 4, 2, 3, 1, 2, 3, 3, 2, 1, 2});
+            for (int pages = 2; pages <= 4; pages++) {
+                BlockLog x = new BlockLog(pages);
+                Lab.feed(x, Lab.closed(body));
+                Due.is("three leaves in " + pages, pages < 3 ? FULL : 3, x.in());
+                Due.is("acts", pages < 3 ? 0 : 3 * 26 + 5 * 32, x.told(1));
+            }
+        });
         Due.sentence("19: a BAD page is not enough", () -> {
             BlockLog x = new BlockLog(1);
             Lab.leaf(x, 0);

@@ -729,6 +729,14 @@ public final class EdgesOfTermsTest {
             x.vote(1, 9, -1);
             Lab.damage(x, Lab.row(0, 1) + 31, 165, Lab.row(0, 1) + 4, 1);
             Due.is("a lesser round", 1, x.vote(1, 2, -1));
+            BlockLog y = new BlockLog(1);
+            y.block(1, 0);
+            y.vote(1, 7, -1);
+            y.vote(1, 8, -1);
+            y.vote(1, 9, -1);
+            Lab.damage(y, Lab.row(0, 1) + 31, 165, Lab.row(0, 1) + 4, 1);
+            Due.is("those behind the torn one are no rows", 1, y.vote(1, 2, -1));
+            Due.is("one round more", 2, y.vote(1, 3, -1));
         });
         Due.sentence("BASE goes with its row", () -> {
             BlockLog x = new BlockLog(1);
