@@ -725,6 +725,20 @@ public final class EdgesOfCallsTest {
             Due.is("out", 21, x.out(1));
             Due.is("on", 1, x.told(0));
         });
+        Due.sentence("18: how many slots have a leaf: a digest of 0 is none", () -> {
+            // A leaf that was searched for, since its digest is 0.
+            int[] leaf = {219, 223, 222, 156, 120, 254, 150, 234, 91, 224, 17, 19, 154, 121, 33, 215};
+            BlockLog x = new BlockLog(2);
+            Lab.leaf(x, leaf);
+            Lab.leaf(x, 5);
+            x.change(0, 0);
+            x.change(1, 1);
+            x.block(1, 0);
+            x.certify(-1, 7);
+            Due.is("out", 13 + 3 + 8, x.out(1));
+            Due.is("one slot", 1, x.at(12));
+            Due.is("slot 1", 1, x.at(13));
+        });
         Due.sentence("18: a leaf in another page that is RIGHT", () -> {
             BlockLog x = new BlockLog(2);
             Lab.leaf(x, 1);
