@@ -61,8 +61,42 @@ public final class FaceTest {
             Due.is(inside + " is static", true, Modifier.isStatic(inside.getModifiers()));
             Due.is(inside + " is not public", false, Modifier.isPublic(inside.getModifiers()));
         }
-        lookAtSource(Path.of(args[0], "src", "main", "java", "BlockLog.java"));
+        Path source = Path.of(args[0], "src", "main", "java", "BlockLog.java");
+        lookAtSource(source);
+        lookAtSizes(face);
+        lookAtLengths(source);
         Due.end();
+    }
+
+    /** Rule 11. */
+    private static void lookAtSizes(Class<?> face) {
+        List<Class<?>> all = new ArrayList<>(Arrays.asList(face.getDeclaredClasses()));
+        all.add(face);
+        Due.is("no more than 12 classes", true, all.size() <= 12);
+        for (Class<?> one : all) {
+            long fields = Arrays.stream(one.getDeclaredFields()).filter(f -> !Modifier.isStatic(f.getModifiers())).count();
+            Due.is(one + " has no more than 20 fields", true, fields <= 20);
+            for (Method method : one.getDeclaredMethods()) {
+                Due.is(method + " takes no more than seven", true, method.getParameterCount() <= 7);
+            }
+        }
+    }
+
+    /** Rule 11: a method ends with the brace that stands as far in as its first line. */
+    private static void lookAtLengths(Path source) throws IOException {
+        List<String> lines = Files.readAllLines(source);
+        int methods = 0;
+        for (int i = 0; i < lines.size(); i++) {
+            String line = lines.get(i);
+            String margin = line.substring(0, line.length() - line.stripLeading().length());
+            boolean starts = (margin.length() == 4 || margin.length() == 8) && line.matches(" +[a-zA-Z].*\\) (throws .*)?\\{");
+            if (starts && !line.strip().matches("(if|for|while|switch|else) .*")) {
+                int end = i + lines.subList(i, lines.size()).indexOf(margin + "}");
+                Due.is("no more than sixty lines: " + line.strip(), true, end - i < 60);
+                methods++;
+            }
+        }
+        Due.is("methods were found", true, methods > 100);
     }
 
     private static List<String> methodsOf(Class<?> face) {
